@@ -57,7 +57,10 @@ final class Disks {
         return text.toString();
     }
 
-    /** All of the disk, the buffer, the controls and what is told. */
+    /**
+     * All of the disk, the buffer, the controls and what is told: more than 512 calls, but calls that only look,
+     * and the program doesn't count them.
+     */
     static String everything(RecordSystem x) {
         StringBuilder text = new StringBuilder();
         for (int i = 0; i < 4096; i++) {

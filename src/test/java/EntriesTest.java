@@ -17,6 +17,10 @@ public final class EntriesTest {
         nothingFits(checks);
         searchGoesOnFromANumber(checks);
         sizeIsTheGreatestEnd(checks);
+        firstAndLastEntry(checks);
+        recordBehindTheDirectory(checks);
+        noFreeEntryBehindTheDirectory(checks);
+        onlySevenBlocksAnEntry(checks);
         checks.finish();
     }
 
@@ -221,5 +225,67 @@ public final class EntriesTest {
         checks.due("size(1) before the close", x.size(1), 3);
         x.close(1);
         checks.due("size(1) behind the close", x.size(1), 21);
+    }
+
+    private static void firstAndLastEntry(Checks checks) {
+        for (int entry = 0; entry < 32; entry += 31) {
+            RecordSystem x = Disks.wanting("A     ", "B     ");
+            Disks.entry(x, entry, 0, "A     ", 0, 5, 8);
+            checks.due("login(0)", x.login(0), 55);
+            checks.due("search(0, 0)", x.search(0, 0), entry);
+            checks.due("size(0)", x.size(0), 5);
+            checks.due("guard(0, true)", x.guard(0, true), 1);
+            checks.due("erase(0), read only", x.erase(0), -3);
+            checks.due("rename(0, 1), read only", x.rename(0, 1), -3);
+            checks.due("guard(0, false)", x.guard(0, false), 1);
+            checks.due("rename(0, 1)", x.rename(0, 1), 1);
+            checks.due("open(1)", x.open(1), entry);
+            checks.due("close(1)", x.close(1), entry);
+            checks.due("erase(1)", x.erase(1), 1);
+            checks.due("told(0)", x.told(0), 56);
+        }
+    }
+
+    private static void recordBehindTheDirectory(Checks checks) {
+        RecordSystem x = Disks.wanting("A     ", "B     ");
+        Disks.entry(x, 32, 0, "A     ", 0, 5, 20, 20);
+        Disks.readOnly(x, 32);
+        String before = Disks.bytes(x, 32);
+        checks.due("login(0)", x.login(0), 56);
+        checks.due("search(0, 31)", x.search(0, 31), -1);
+        checks.due("open(0)", x.open(0), -1);
+        checks.due("size(0)", x.size(0), 0);
+        checks.due("erase(0)", x.erase(0), -1);
+        checks.due("rename(0, 1)", x.rename(0, 1), -1);
+        checks.due("guard(0, false)", x.guard(0, false), -1);
+        x.spoil(32 * 16 + 5, 32);
+        checks.due("erase(0)", x.erase(0), -1);
+        checks.due("rename(0, 1)", x.rename(0, 1), -1);
+        checks.due("told(1)", x.told(1), 0);
+        checks.due("told(2)", x.told(2), 32);
+        Disks.readOnly(x, 32);
+        checks.same("the record", Disks.bytes(x, 32), before);
+    }
+
+    private static void noFreeEntryBehindTheDirectory(Checks checks) {
+        RecordSystem x = new RecordSystem();
+        x.spoil(512, Disks.FREE);
+        checks.due("told(2)", x.told(2), 32);
+        for (int entry = 0; entry < 32; entry++) {
+            x.make(0);
+        }
+        checks.due("make(0)", x.make(0), -2);
+        checks.due("at(0, 28, true)", x.at(0, 28, true), -2);
+        checks.due("told(2)", x.told(2), 0);
+    }
+
+    private static void onlySevenBlocksAnEntry(Checks checks) {
+        RecordSystem x = Disks.wanting("A     ");
+        Disks.entry(x, 0, 0, "A     ", 0, 0);
+        Disks.entry(x, 1, 9, "B     ", 0, 0, 9);
+        checks.due("told(1): the next entry's user is no block", x.told(1), 0);
+        checks.due("login(0)", x.login(0), 55);
+        checks.due("erase(0)", x.erase(0), 1);
+        checks.due("told(0): the next entry's user is no block", x.told(0), 55);
     }
 }

@@ -16,8 +16,11 @@ public final class StartTest {
     }
 
     private static void newDisk(Checks checks) {
-        RecordSystem x = new RecordSystem();
+        RecordSystem x = null;
         for (int i = 0; i < 4096; i++) {
+            if (i % 512 == 0) {
+                x = new RecordSystem();
+            }
             checks.due("new disk(" + i + ")", x.disk(i), i < 512 && i % 16 == 0 ? Disks.FREE : 0);
         }
     }
