@@ -5,8 +5,10 @@ import java.util.Random;
  * and the same calls on another object answer the same.
  */
 public final class AnyCallsTest {
-    private static final int RUNS = 400;
-    private static final int CALLS = 500;
+    private static final int RUNS = 600;
+    private static final int CALLS = 420;
+    // Looking at the bounds takes calls, too, and an object answers for 512 in all.
+    private static final int LOOKS_EVERY = 60;
     private static final String[] NAMES = {"A     ", "AB    ", "A?    ", "??????", "      "};
 
     private final Checks checks = new Checks();
@@ -34,11 +36,14 @@ public final class AnyCallsTest {
             } catch (IndexOutOfBoundsException | IllegalArgumentException e) {
                 // A fault of the program's own would come as a class below these, or with the machine's words.
                 boolean isThrown = e.getMessage() == null
-                    && (e.getClass() == IndexOutOfBoundsException.class || e.getClass() == IllegalArgumentException.class);
+                    && (e.getClass() == IndexOutOfBoundsException.class
+                        || e.getClass() == IllegalArgumentException.class);
                 checks.holds("run " + seed + ", call " + i + " threw " + e, isThrown);
                 answer = -100;
             }
-            checkBounds(x, seed, i);
+            if (i % LOOKS_EVERY == LOOKS_EVERY - 1) {
+                checkBounds(x, seed, i);
+            }
             sum = sum * 31 + answer;
         }
         return sum;
@@ -84,8 +89,6 @@ public final class AnyCallsTest {
         for (int c = 0; c < 2; c++) {
             isSound &= x.has(c, 1) <= 15 && x.has(c, 3) <= 28 && x.has(c, 2) <= 255;
         }
-        if (!isSound) {
-            checks.holds("run " + seed + ", call " + i + " leaves all in its bounds", false);
-        }
+        checks.holds("run " + seed + ", call " + i + " leaves all in its bounds", isSound);
     }
 }

@@ -1,7 +1,11 @@
+import java.util.function.Supplier;
+
 /** Ways to set up a disk and to look at all that a caller can see of an object. */
 final class Disks {
     static final int FREE = 229;
     static final String BLANK = "      ";
+
+    private static final int PART = 256;
 
     private Disks() {
     }
@@ -58,14 +62,22 @@ final class Disks {
     }
 
     /**
-     * All of the disk, the buffer, the controls and what is told: more than 512 calls, but calls that only look,
-     * and the program doesn't count them.
+     * All of the disk, the buffer, the controls, what is told, and what can only be found out by going on. No object
+     * may be asked more than 512 times, so the run that leads there is made anew for each part.
      */
-    static String everything(RecordSystem x) {
+    static String everything(Supplier<RecordSystem> run) {
         StringBuilder text = new StringBuilder();
-        for (int i = 0; i < 4096; i++) {
-            text.append(x.disk(i)).append(' ');
+        for (int from = 0; from < 4096; from += PART) {
+            RecordSystem x = run.get();
+            for (int i = from; i < from + PART; i++) {
+                text.append(x.disk(i)).append(' ');
+            }
         }
+        return text + seen(run.get()) + goingOn(run.get());
+    }
+
+    private static String seen(RecordSystem x) {
+        StringBuilder text = new StringBuilder();
         text.append("buffer ").append(x.buffer(0)).append(' ').append(x.buffer(1));
         for (int c = 0; c < 4; c++) {
             text.append(" control ").append(c).append(' ').append(control(x, c));
@@ -76,6 +88,26 @@ final class Disks {
             text.append(' ').append(x.told(what));
         }
         return text.toString();
+    }
+
+    /** The power that is left, the user, the wanted names, which blocks are taken and which controls may write. */
+    private static String goingOn(RecordSystem x) {
+        StringBuilder text = new StringBuilder(" then");
+        for (int c = 0; c < 4; c++) {
+            text.append(" at ").append(x.at(c, 4 * c, true)).append(" has ").append(control(x, c));
+        }
+        for (int c = 0; c < 4; c++) {
+            int entry = x.make(c);
+            text.append(" made ").append(entry).append(": ").append(entry < 0 ? "" : bytes(x, entry));
+        }
+        for (int k = 0; k < 7; k++) {
+            text.append(" write ").append(x.at(3, 4 * k, true)).append(" into ").append(x.has(3, 4 + k));
+        }
+        int last = x.make(3);
+        for (int i = 0; i < 32 && last >= 0; i++) {
+            last = x.make(3);
+        }
+        return text.append(" at last ").append(last).append(" with ").append(x.told(3)).toString();
     }
 
     /** What a control has: open, stretch, count, place and seven blocks. */

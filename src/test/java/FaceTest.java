@@ -54,7 +54,8 @@ public final class FaceTest {
         checks.due("its parameters", constructors[0].getParameterCount(), 0);
         for (Class<?> inside : RecordSystem.class.getDeclaredClasses()) {
             boolean isSeen = Modifier.isPublic(inside.getModifiers()) || Modifier.isProtected(inside.getModifiers());
-            checks.holds(inside.getName() + " is static and not seen", Modifier.isStatic(inside.getModifiers()) && !isSeen);
+            boolean isStatic = Modifier.isStatic(inside.getModifiers());
+            checks.holds(inside.getName() + " is static and not seen", isStatic && !isSeen);
         }
     }
 

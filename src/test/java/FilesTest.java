@@ -141,16 +141,23 @@ public final class FilesTest {
         checks.due("write(0) behind a make", x.write(0), 0);
     }
 
-    private static void makeFullLeavesTheControl(Checks checks) {
+    private static RecordSystem fullDirectory() {
         RecordSystem x = new RecordSystem();
         for (int i = 0; i < 32; i++) {
-            checks.due("make(0)", x.make(0), i);
+            x.make(0);
         }
         x.write(0);
-        String before = Disks.everything(x);
+        return x;
+    }
+
+    private static void makeFullLeavesTheControl(Checks checks) {
+        RecordSystem x = fullDirectory();
         checks.due("make(0) with none free", x.make(0), -2);
         checks.due("make(1) with none free", x.make(1), -2);
-        checks.same("all of it", Disks.everything(x), before);
+        checks.changesNothing("make(0), make(1)", FilesTest::fullDirectory, y -> {
+            y.make(0);
+            y.make(1);
+        });
     }
 
     private static void makeWithoutPower(Checks checks) {
