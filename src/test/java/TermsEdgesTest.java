@@ -67,6 +67,9 @@ public final class TermsEdgesTest {
             checks.due(told + "guard(0, true)", x.guard(0, true), is ? 1 : -1);
             checks.due(told + "rename(0, 1), read only", x.rename(0, 1), is ? -3 : -1);
             checks.due(told + "erase(0), read only", x.erase(0), is ? -3 : -1);
+            Disks.readOnly(x, record);
+            checks.due(told + "rename(0, 1), its bit set", x.rename(0, 1), is ? -3 : -1);
+            checks.due(told + "erase(0), its bit set", x.erase(0), is ? -3 : -1);
             checks.due(told + "guard(0, false)", x.guard(0, false), is ? 1 : -1);
             checks.due(told + "open(0)", x.open(0), is ? record : -1);
             checks.due(told + "close(0)", x.close(0), is ? record : -1);
@@ -358,6 +361,7 @@ public final class TermsEdgesTest {
         x.at(0, 4, true);
         checks.due("has(0, 5): a block told since", x.has(0, 5), 12);
         x.close(0);
+        checks.due("told(0): a close takes nothing, whatever the entry told", x.told(0), 51);
         checks.due("login(0)", x.login(0), 54);
     }
 
